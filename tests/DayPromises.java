@@ -263,10 +263,10 @@ public final class DayPromises {
     private static void nightFaults() {
         String[] texts = {"x", "S", "s", "s0", "s02", "s0x", "s01", "s01x", "s01*", "s01*x", "s01*123", "s01*1;", "c", "cx",
             "c0", "c00", "c0*", "c0*99*", "l", "lx", "l0", "l0x", "l00", "l002", "l0011", "d0", "d;", "d11", "dd", ";d",
-            "d;;d", "d;x", "d9;s91*99;c9*0;l991;d;y", "sx", "s/0"};
+            "d;;d", "d;x", "d9;s91*99;c9*0;l991;d;y", "sx", "s/0", "s:0", "s01*:", "s01*1:", "c:", "l:", "l0:", "d:"};
         int[] places = {0, 0, 1, 2, 2, 2, 3, 3, 4, 4, 6, 6, 1, 1,
             2, 2, 3, 5, 1, 1, 2, 2, 3, 3, 4, 1, 2, 2, 1, 0,
-            2, 2, 22, 1, 1};
+            2, 2, 22, 1, 1, 1, 4, 5, 1, 1, 2, 1};
         SnowForSummer x = Checks.town("5,11;5,00", "1");
         for (int i = 0; i < texts.length; i++) {
             T.due("night " + texts[i], Checks.put(x, texts[i]).night(), -1 - places[i]);

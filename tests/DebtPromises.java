@@ -37,9 +37,15 @@ public final class DebtPromises {
         SnowForSummer y = Checks.debts(7, 0, 3, 1, 3, 6, 1, 6, 0, 1, 0, 2, 1, 2, 5, 1, 5, 0, 1);
         T.due("the least next one", y.ring(), 3);
         T.row("the least next one", y, 0, 2, 5, 1);
-        SnowForSummer z = Checks.debts(7, 0, 6, 2, 6, 5, 2, 5, 4, 2, 4, 3, 2, 3, 2, 2, 2, 1, 2, 1, 0, 2);
+        SnowForSummer z = Checks.debts(7, 0, 6, 2, 6, 5, 2, 5, 4, 2, 4, 3, 2, 3, 2, 2, 2, 1, 2, 1, 0, 1);
         T.due("seven, backwards", z.ring(), 7);
-        T.row("seven, backwards", z, 0, 6, 5, 4, 3, 2, 1, 2);
+        T.row("seven, backwards", z, 0, 6, 5, 4, 3, 2, 1, 1);
+        SnowForSummer f = Checks.debts(7, 0, 1, 2, 1, 2, 2, 2, 3, 2, 3, 4, 2, 4, 5, 2, 5, 6, 2, 6, 0, 1);
+        T.due("seven, forwards", f.ring(), 7);
+        T.row("seven, forwards", f, 0, 1, 2, 3, 4, 5, 6, 1);
+        T.due("seven cleared", f.cancel(), 7);
+        T.due("of the last one nothing is left", f.debt(6, 0), 0);
+        T.due("of the others one day", f.debt(5, 6), 1);
     }
 
     private static void cancel() {

@@ -66,6 +66,14 @@ public final class KeptPromises {
         T.due("bits below 0", x.gang(-1), -1);
         T.row("these leave the ROW", x, 5);
         T.due("no HOUSES", new SnowForSummer().gang(1), -2);
+        SnowForSummer all = Checks.town("5,11;5,00;5,00;5,00;5,00;5,00;5,00");
+        for (int house = 0; house < 7; house++) {
+            all.track(house, 6 - house);
+        }
+        T.due("all seven", all.gang(127), 7);
+        T.row("all seven", all, 127);
+        T.due("six of them", all.gang(63), 6);
+        T.row("six of them", all, 126);
     }
 
     private static void keepAndAgain() {

@@ -93,10 +93,10 @@ public final class TownPromises {
     private static void townFaults() {
         String[] texts = {"0", "0x", "00", "0,00", "00,00", "123,00", "1", "1;", "1,", "1,0", "1,07", "1,70", "1,000",
             "1,00*", "1,00*;", "1,00*31", "1,00*99x", "1,00*300", "1,00*4x", "1,00;", "1,00;;", ";", " 1,00", "-1,00",
-            "1,00*30;0,00", "1,00 "};
+            "1,00*30;0,00", "1,00 ", ":,00", "1:,00", "1,00*:", "1,00*1:", "1/,00", "1,0/"};
         int[] places = {0, 0, 1, 0, 1, 2, 1, 1, 2, 3, 3, 2, 4,
             5, 5, 6, 6, 7, 6, 5, 5, 0, 0, 0,
-            8, 4};
+            8, 4, 0, 1, 5, 6, 1, 3};
         for (int i = 0; i < texts.length; i++) {
             T.due("town " + texts[i], readTown(texts[i]), -1 - places[i]);
         }
@@ -127,6 +127,10 @@ public final class TownPromises {
         T.due("no weather", Checks.put(x, "").weather(), 0);
         T.due("nothing falls", x.falls(3), 0);
         T.due("upper case", Checks.put(x, "A").weather(), -1);
+        T.due("a sign behind 9", Checks.put(x, "9:").weather(), -2);
+        T.due("a sign ahead of 0", Checks.put(x, "0/").weather(), -2);
+        T.due("a sign ahead of a", Checks.put(x, "a`").weather(), -2);
+        T.due("a sign 0", Checks.put(x, "1" + (char) 0).weather(), -2);
     }
 
     /** What a slide of 7 inches from house 1 (HOLD 9) onto house 0 (2 inches) owes in day 3, when it thaws 4. */
@@ -173,9 +177,9 @@ public final class TownPromises {
 
     private static void ruleFaults() {
         String[] texts = {"z", "D", "d+", "+d", "d+*d", "d<p<t", "d<p=t", "d=", "(d", "(d))", "()", "((((d)))", "(((((d",
-            "(((((", "1000", "2d", "dd", "d(", "-", "d-", "(d<p)<(t", "d<(p<t<o)", "d d", "4*(d+1", "d*/2", ")"};
+            "(((((", "1000", "2d", "dd", "d(", "-", "d-", "(d<p)<(t", "d<(p<t<o)", "d d", "4*(d+1", "d*/2", ")", ":", "1:", "12:"};
         int[] places = {0, 0, 2, 0, 2, 3, 3, 2, 2, 3, 1, 8, 4,
-            4, 3, 1, 1, 1, 1, 2, 8, 6, 1, 6, 2, 0};
+            4, 3, 1, 1, 1, 1, 2, 8, 6, 1, 6, 2, 0, 0, 1, 2};
         for (int i = 0; i < texts.length; i++) {
             T.due("rule " + texts[i], Checks.put(new SnowForSummer(), texts[i]).rule(), -1 - places[i]);
         }

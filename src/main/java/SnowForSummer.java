@@ -28,7 +28,7 @@ public final class SnowForSummer {
     private static final int MOST_DAY = 9999;
     private static final int NO_SUCH_DAY = -10;
     private static final int MISSING_SHEET = -3;
-    private static final int SHEETS = 2;
+    private static final int KEPT = 2;
     private static final int ROW = 8;
 
     private final Text text = new Text();
@@ -42,8 +42,8 @@ public final class SnowForSummer {
     private final Hands nights = new Hands(town, weather, rule);
     private final State before = new State();
     private final History history = new History();
-    private final State[] kept = new State[SHEETS];
-    private final int[] keptHouses = new int[SHEETS];
+    private final State[] kept = new State[KEPT];
+    private final int[] keptHouses = new int[KEPT];
     private final Ring shortest = new Ring();
     private final Tracks tracks = new Tracks();
     private final int[] tally = new int[HOUSES];
@@ -51,7 +51,7 @@ public final class SnowForSummer {
     private int toldCount;
 
     public SnowForSummer() {
-        for (int i = 0; i < SHEETS; i++) {
+        for (int i = 0; i < KEPT; i++) {
             kept[i] = new State();
             keptHouses[i] = NONE;
         }
@@ -535,16 +535,11 @@ public final class SnowForSummer {
 
     // ---- days to come, nobody lifting a hand (nothing changes)
 
-    private void foresee(int n) {
-        trial.beginAt(real.state);
-        trial.goDays(n);
-    }
-
     public int ahead(int n) {
         if (!isWithin(n, 0, MOST_AHEAD)) {
             return NONE;
         }
-        foresee(n);
+        trial.walkFrom(real.state, n);
         tell(trial.slides);
         for (int house = 0; house < town.houses; house++) {
             tellMore(trial.owedBy[house]);
@@ -570,7 +565,7 @@ public final class SnowForSummer {
         if (!town.hasSide(side) || !isWithin(n, 0, MOST_AHEAD)) {
             return NONE;
         }
-        foresee(n);
+        trial.walkFrom(real.state, n);
         toldCount = 0;
         for (int house = 0; house < town.houses; house++) {
             tellMore(trial.state.path[house]);
@@ -600,7 +595,7 @@ public final class SnowForSummer {
         if (!isWithin(n, 0, MOST_AHEAD)) {
             return NONE;
         }
-        foresee(n);
+        trial.walkFrom(real.state, n);
         int lord = NOT_SO;
         int most = 0;
         for (int house = 0; house < town.houses; house++) {
@@ -652,7 +647,7 @@ public final class SnowForSummer {
         if (!isWithin(n, 0, MOST_AHEAD)) {
             return NONE;
         }
-        foresee(n);
+        trial.walkFrom(real.state, n);
         int bits = 0;
         for (int house = 0; house < town.houses; house++) {
             if (trial.owedBy[house] == 0) {
@@ -697,7 +692,7 @@ public final class SnowForSummer {
         if (!town.has(house) || !isWithin(n, 0, MOST_AHEAD)) {
             throw new NoSuchElementException();
         }
-        foresee(n);
+        trial.walkFrom(real.state, n);
         int owed = trial.owed;
         trial.beginAt(real.state);
         trial.state.snow[2 * house] = 0;
@@ -785,34 +780,24 @@ public final class SnowForSummer {
         if (!isWithin(v, 1, MOST_HOLD) || !isWithin(n, 0, MOST_AHEAD)) {
             return NONE;
         }
-        int best = NOT_SO;
-        int fewest = ENDLESS;
-        for (int house = 0; house < town.houses; house++) {
-            int old = town.hold[house];
-            town.hold[house] = v;
-            foresee(n);
-            town.hold[house] = old;
-            if (trial.owed < fewest) {
-                fewest = trial.owed;
-                best = house;
-            }
-        }
-        if (best >= 0) {
-            tell(fewest);
-        }
-        return best;
+        return bestRoof(v, n);
     }
 
     public int turned(int n) {
         if (!isWithin(n, 0, MOST_AHEAD)) {
             return NONE;
         }
+        return bestRoof(NONE, n);
+    }
+
+    /** The house that had best have another HOLD, or (NONE) its sides turned. */
+    private int bestRoof(int hold, int n) {
         int best = NOT_SO;
         int fewest = ENDLESS;
         for (int house = 0; house < town.houses; house++) {
-            town.turn(house);
-            foresee(n);
-            town.turn(house);
+            int old = town.rebuild(house, hold);
+            trial.walkFrom(real.state, n);
+            town.rebuild(house, old);
             if (trial.owed < fewest) {
                 fewest = trial.owed;
                 best = house;
@@ -853,7 +838,7 @@ public final class SnowForSummer {
         if (houses == 0 || !isWithin(n, 0, MOST_AHEAD)) {
             throw new NoSuchElementException();
         }
-        foresee(n);
+        trial.walkFrom(real.state, n);
         int most = 0;
         toldCount = 0;
         for (int house = 0; house < houses; house++) {
@@ -910,7 +895,7 @@ public final class SnowForSummer {
     // ---- kept
 
     public boolean keep(int i) {
-        if (!isWithin(i, 0, SHEETS - 1)) {
+        if (!isWithin(i, 0, KEPT - 1)) {
             return false;
         }
         kept[i].takeFrom(real.state);
@@ -919,7 +904,7 @@ public final class SnowForSummer {
     }
 
     public boolean again(int i) {
-        if (!isWithin(i, 0, SHEETS - 1) || keptHouses[i] != town.houses) {
+        if (!isWithin(i, 0, KEPT - 1) || keptHouses[i] != town.houses) {
             return false;
         }
         real.state.takeFrom(kept[i]);
@@ -1097,12 +1082,20 @@ public final class SnowForSummer {
             return (1 << houses) - 1;
         }
 
-        void turn(int house) {
-            if (has(house)) {
-                int first = below[2 * house];
-                below[2 * house] = below[2 * house + 1];
-                below[2 * house + 1] = first;
+        /** Gives a house another HOLD, or (NONE) turns its sides: what undoes it. */
+        int rebuild(int house, int strength) {
+            if (!has(house)) {
+                return NONE;
             }
+            if (strength != NONE) {
+                int old = hold[house];
+                hold[house] = strength;
+                return old;
+            }
+            int first = below[2 * house];
+            below[2 * house] = below[2 * house + 1];
+            below[2 * house + 1] = first;
+            return NONE;
         }
 
         int read(Text text) {
@@ -1499,6 +1492,13 @@ public final class SnowForSummer {
         void beginAt(State from) {
             state.takeFrom(from);
             clearTally();
+        }
+
+        void walkFrom(State from, int n) {
+            beginAt(from);
+            for (int i = 0; i < n; i++) {
+                goDay();
+            }
         }
 
         void clearTally() {
