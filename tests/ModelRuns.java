@@ -3,7 +3,10 @@ import java.util.List;
 import java.util.NoSuchElementException;
 import java.util.Random;
 
-/** Long random runs of calls, on the class and on the model beside it: each answer and each ROW is compared. */
+/**
+ * Long random runs of calls, on the class and on the model beside it: each answer and each ROW is compared.
+ * An argument tells the first run's number, for other runs than those of .ci/run.
+ */
 public final class ModelRuns {
     private static final int RUNS = 400;
     private static final int CALLS = 300;
@@ -25,7 +28,8 @@ public final class ModelRuns {
     }
 
     public static void main(String[] args) {
-        for (int run = 0; run < RUNS; run++) {
+        int first = args.length == 0 ? 0 : Integer.parseInt(args[0]);
+        for (int run = first; run < first + RUNS; run++) {
             ModelRuns one = new ModelRuns(run);
             one.begin(run);
             for (int i = 0; i < CALLS && !one.wrong; i++) {

@@ -49,6 +49,8 @@ final class Model {
     String text = "";
     List<House> town = new ArrayList<>();
     String weather = "";
+    /** The same, of one day at least: Java 17's compiler may divide by its length ahead of a test for 0, and crash. */
+    String cycle = "0";
     String rule = "";
     Winter w = new Winter();
     Deque<Winter> undo = new ArrayDeque<>();
@@ -185,6 +187,7 @@ final class Model {
             return -1 - fault;
         }
         weather = t;
+        cycle = t.isEmpty() ? "0" : t;
         return t.length();
     }
 
@@ -218,14 +221,12 @@ final class Model {
         }
         // The letters of the digits 10 to 15 are a to f, as it happens: thaws of 1 to 6.
         weather = b.toString();
+        cycle = weather;
         return snowy;
     }
 
     private int falling(int day) {
-        if (weather.isEmpty()) {
-            return 0;
-        }
-        char c = weather.charAt(day % weather.length());
+        char c = cycle.charAt(day % cycle.length());
         return Character.isDigit(c) ? c - '0' : -(c - 'a' + 1);
     }
 

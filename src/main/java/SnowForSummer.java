@@ -1161,6 +1161,8 @@ public final class SnowForSummer {
 
         private final int[] inches = new int[MOST];
         private int length;
+        /** After how many days it begins again: 1 without any weather, as nothing every day. */
+        private int cycle = 1;
 
         int read(Text text) {
             text.open(MOST);
@@ -1175,12 +1177,14 @@ public final class SnowForSummer {
             }
             text.open(MOST);
             length = 0;
+            inches[0] = 0;
             for (int i = 0; i < MOST && text.peek() >= 0; i++) {
                 int sign = text.peek();
                 inches[i] = sign <= '9' ? sign - '0' : 'a' - 1 - sign;
                 length++;
                 text.skip();
             }
+            cycle = Math.max(1, length);
             return length;
         }
 
@@ -1191,7 +1195,8 @@ public final class SnowForSummer {
         int draw(int seed, int n) {
             int r = seed;
             int snowy = 0;
-            length = Math.max(0, Math.min(n, MOST));
+            length = Math.max(1, Math.min(n, MOST));
+            cycle = length;
             for (int i = 0; i < length; i++) {
                 r = r * 1103515245 + 12345;
                 int drawn = (r >>> 16) % 16;
@@ -1204,7 +1209,8 @@ public final class SnowForSummer {
         }
 
         int inchesIn(int day) {
-            return length == 0 || day < 0 ? 0 : inches[day % length];
+            // Java 17's compiler may divide ahead of this test, and crash by a 0: cycle never is one.
+            return cycle < 1 || day < 0 ? 0 : inches[day % cycle];
         }
     }
 
