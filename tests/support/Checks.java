@@ -8,12 +8,22 @@ final class Checks {
 
     private int asked;
     private int wrong;
+    private String heading = "";
+
+    /** What stands ahead of each answer that is not as due. */
+    void head(String words) {
+        heading = words;
+    }
+
+    int asked() {
+        return asked;
+    }
 
     void due(String what, long got, long want) {
         asked++;
         if (got != want) {
             wrong++;
-            System.out.println(what + " answered " + got + ", due is " + want);
+            System.out.println(heading + what + " answered " + got + ", due is " + want);
         }
     }
 
@@ -26,7 +36,7 @@ final class Checks {
         try {
             int got = call.answer();
             wrong++;
-            System.out.println(what + " answered " + got + ", due is NoSuchElementException");
+            System.out.println(heading + what + " answered " + got + ", due is NoSuchElementException");
         } catch (NoSuchElementException e) {
             // as due
         }
