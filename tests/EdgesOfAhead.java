@@ -45,6 +45,8 @@ public final class EdgesOfAhead {
             t.due("owed now", x.of(0, 7), 12);
             t.due("ahead(1)", x.ahead(1), 9);
             t.row("ahead(1)", x, 4, 0, 9, 0);
+            t.due("the same again", x.ahead(1), 9);
+            t.row("the same again", x, 4, 0, 9, 0);
         });
         E.promise(34, "by HOUSES: seven of them", t -> {
             SnowForSummer x = Checks.town("1,11;1,00;1,00;1,00;1,00;1,00;1,05", "2", "d+h");
@@ -66,7 +68,7 @@ public final class EdgesOfAhead {
         E.promise(35, "-2: not in these", t -> {
             SnowForSummer x = Checks.town("5,00;5,00;5,00", LATE);
             x.set(0, 1, 3);
-            x.least();
+            x.above(0);
             Edges.idle(t, "in the ninetieth", x, -2, () -> x.slides(0));
         });
         E.promise(35, "NONE: none such", t -> {
@@ -153,9 +155,15 @@ public final class EdgesOfAhead {
             t.due("0, though 1 is owed 6 now", x.lord(1), 0);
             t.row("0", x, 9);
         });
+        E.promise(38, "how many more: one DAY, to the last of seven", t -> {
+            SnowForSummer x = Checks.town("5,66;50,00;50,00;50,00;50,00;50,00;50,00", "", "1");
+            x.set(0, 2, 6);
+            t.due("lord(1)", x.lord(1), 6);
+            t.row("lord(1)", x, 1);
+        });
         E.promise(38, "-2: of none they are more", t -> {
             SnowForSummer x = three();
-            x.least();
+            x.above(0);
             Edges.idle(t, "in the first DAY", x, -2, () -> x.lord(1));
             Checks.put(x, "0").rule();
             Edges.idle(t, "by a RULE of 0", x, -2, () -> x.lord(60));
@@ -199,9 +207,15 @@ public final class EdgesOfAhead {
                 Edges.idle(t, "worst(" + n + ")", x, -1, () -> x.worst(n));
             }
         });
+        E.promise(39, "how many SLIDES: one", t -> {
+            SnowForSummer x = Checks.town("5,00;5,00;5,00;5,00;5,00;5,00;5,00");
+            x.set(6, 2, 6);
+            t.due("worst(60)", x.worst(60), 1);
+            t.row("worst(60)", x, 1);
+        });
         E.promise(39, "-2: there are none", t -> {
             SnowForSummer x = Checks.town("1,00", LATE);
-            x.least();
+            x.above(0);
             Edges.idle(t, "worst(59)", x, -2, () -> x.worst(59));
         });
     }
@@ -233,7 +247,7 @@ public final class EdgesOfAhead {
         E.promise(40, "-2: not in these", t -> {
             SnowForSummer x = Checks.town("99,00;99,00;99,00", "a");
             x.set(2, 3, 61);
-            x.least();
+            x.above(0);
             Edges.idle(t, "61", x, -2, x::melt);
         });
     }
@@ -258,6 +272,8 @@ public final class EdgesOfAhead {
             SnowForSummer x = Checks.town("1,01;1,11;1,66", "3", "0");
             t.due("by a RULE of 0 all owe nothing", x.lazy(1), 7);
             t.row("0 has its own SNOW alone, 1 that of 0", x, 5);
+            x.lazy(0);
+            t.row("in no DAY nothing slides", x, 7);
         });
     }
 
@@ -300,7 +316,7 @@ public final class EdgesOfAhead {
             SnowForSummer x = Checks.town("5,11;99,00");
             x.set(0, 1, 7);
             x.set(1, 3, 3);
-            x.least();
+            x.above(0);
             Edges.idle(t, "7 slide there", x, -2, () -> x.dig(1, 6, 1));
             t.due("all do", x.dig(1, 7, 1), 3);
             t.due("7 more", x.dig(1, 10, 1), 0);
@@ -336,10 +352,15 @@ public final class EdgesOfAhead {
             x.set(1, 3, 9);
             t.due("6 + 9 and 7 + 15", x.bare(0, 1), 37);
             t.due("without SNOW on it", x.bare(1, 1), 0);
+            SnowForSummer y = Checks.town("5,11;5,20;5,01");
+            y.sheet(2, 6, 6, 1);
+            t.due("0: 6 and 7", y.bare(0, 1), 13);
+            t.due("1: 8 and 9", y.bare(1, 1), 17);
+            t.due("2: 10 and 11", y.bare(2, 1), 21);
         });
         E.promise(43, "NoSuchElementException: others", t -> {
             SnowForSummer x = three();
-            x.least();
+            x.above(0);
             for (int house : NO_HOUSE_OF_THREE) {
                 Edges.idleThrow(t, "bare(" + house + ", 0)", x, () -> x.bare(house, 0));
             }

@@ -29,6 +29,8 @@ public final class EdgesOfDays {
             t.due("none", x.day(), 0);
             x.sheet(2, 4, 6, 0);
             t.due("onto its own, another one's, nobody's PATH", x.day(), 4);
+            x.set(0, 1, 6);
+            t.due("of this DAY alone", x.day(), 1);
         });
         E.promise(14, "the ROW: DAYS that came to be owed in it, inches that lie on all PATHS then", t -> {
             SnowForSummer x = Checks.town("5,11;5,00", "1");
@@ -342,8 +344,10 @@ public final class EdgesOfDays {
             }
         });
         E.promise(21, "a HOUSE, a SIDE (0, 1)", t -> {
-            String[] wrong = {"s02*1", "l002", "s0:*1", "l00/", "s:0*1", "c/*1", "l:00", "l0:0", "d:", "d/", "S00*1", "w0*1"};
-            int[] places = {2, 3, 2, 3, 1, 1, 1, 2, 1, 1, 0, 0};
+            String[] wrong = {"s02*1", "l002", "s0:*1", "l00/", "s:0*1", "c/*1", "l:00", "l0:0", "d:", "d/", "S00*1", "w0*1",
+                "c:*1", "s/0*1", "l/00", "l0/0", "s0/*1", "l00:"};
+            int[] places = {2, 3, 2, 3, 1, 1, 1, 2, 1, 1, 0, 0,
+                1, 1, 1, 2, 2, 3};
             for (int i = 0; i < wrong.length; i++) {
                 t.due(wrong[i], nightOf(swept(), wrong[i]), -1 - places[i]);
             }
@@ -409,6 +413,19 @@ public final class EdgesOfDays {
                 t.due("all as ahead of call " + i, Edges.image(x).equals(ahead), true);
             }
         });
+        E.promise(22, "as ahead of it: not as ahead of what changed it otherwise", t -> {
+            SnowForSummer x = Checks.debts(3, 0, 1, 90, 1, 0, 90, 1, 2, 3);
+            Runnable[] calls = {x::day, () -> x.days(2), () -> x.sweep(0, 1), () -> x.clear(0, 1), () -> x.loose(1, 0),
+                () -> x.work(0, 1, 1), () -> x.wind(0, 1), () -> nightOf(x, "d"), x::cancel, x::even, x::rings};
+            for (int i = 0; i < calls.length; i++) {
+                x.set(0, 1, 11 + i);
+                x.set(0, 3, 31 + i);
+                calls[i].run();
+                x.undo();
+                t.due("SNOW ahead of call " + i, x.of(0, 1), 11 + i);
+                t.due("PATH ahead of call " + i, x.of(0, 3), 31 + i);
+            }
+        });
         E.promise(22, "Refused: none", t -> {
             SnowForSummer x = swept();
             Edges.idle(t, "undo", x, -1, x::undo);
@@ -463,6 +480,9 @@ public final class EdgesOfDays {
             nightOf(x, "");
             nightOf(x, "s00*99;d");
             t.due("no ACT was done", x.count(6), 0);
+            nightOf(x, "d;s00*99");
+            t.due("one was done", x.count(6), 1);
+            t.due("and undone", x.undo(), 0);
             nightOf(x, "d;d;s00*1;s00*99");
             t.due("three were done", x.count(6), 1);
             t.due("undone at once", x.undo(), 0);

@@ -17,6 +17,7 @@ public final class EdgesOfDebts {
         hay();
         works();
         summer();
+        seven();
         E.finish();
     }
 
@@ -51,6 +52,12 @@ public final class EdgesOfDebts {
             SnowForSummer x = Checks.debts(7, 0, 2, 9, 2, 4, 9, 4, 6, 9, 6, 1, 9, 1, 3, 9, 3, 5, 9, 5, 0, 8);
             t.due("all", x.ring(), 7);
             t.row("all", x, 0, 2, 4, 6, 1, 3, 5, 8);
+            SnowForSummer y = Checks.debts(7, 0, 1, 2, 1, 2, 2, 2, 3, 2, 3, 4, 2, 4, 5, 2, 5, 6, 2, 6, 0, 1);
+            t.due("all, by numbers", y.ring(), 7);
+            t.row("all, by numbers", y, 0, 1, 2, 3, 4, 5, 6, 1);
+            t.due("cleared", y.cancel(), 7);
+            t.due("6 owes 0 nothing", y.debt(6, 0), 0);
+            t.due("5 owes 6", y.debt(5, 6), 1);
         });
         E.promise(23, "the least DAYS owed in it", t -> {
             SnowForSummer x = Checks.debts(3, 0, 1, 9999, 1, 2, 9999, 2, 0, 9999);
@@ -62,7 +69,7 @@ public final class EdgesOfDebts {
         });
         E.promise(23, "-2: there is none", t -> {
             SnowForSummer x = Checks.debts(4, 0, 1, 5, 1, 2, 6, 0, 2, 7, 3, 2, 8);
-            x.least();
+            x.above(0);
             Edges.idle(t, "no ring", x, -2, x::ring);
             SnowForSummer none = Checks.debts(2);
             Edges.idle(t, "no DEBTS", none, -2, none::ring);
@@ -82,6 +89,8 @@ public final class EdgesOfDebts {
             t.due("the first pair", x.cancel(), 8);
             t.due("the other pair stays", x.debt(2, 3), 6);
             t.due("the other pair", x.cancel(), 12);
+            t.due("2 owes 3 nothing", x.debt(2, 3), 0);
+            t.due("3 owes 2 nothing", x.debt(3, 2), 0);
         });
         E.promise(24, "-2: there is none", t -> {
             SnowForSummer x = Checks.debts(3, 0, 1, 5, 1, 2, 6);
@@ -117,6 +126,10 @@ public final class EdgesOfDebts {
             t.due("21 pairs", x.rings(), 21);
             int days = x.row(0);
             t.due("nothing is owed any more", x.count(4), 0);
+            for (int house = 0; house < 7; house++) {
+                t.due(house + " owes nothing", x.of(house, 7), 0);
+                t.due(house + " is owed nothing", x.of(house, 8), 0);
+            }
             x.undo();
             t.due("as many as were owed", x.count(4), days);
         });
@@ -149,6 +162,10 @@ public final class EdgesOfDebts {
             SnowForSummer z = Checks.debts(2);
             t.due("no DEBTS", z.least(), 0);
             t.row("no DEBTS", z, 0);
+            SnowForSummer w = Checks.debts(7, 6, 0, 5, 0, 6, 1);
+            t.due("the first of seven is ahead", w.least(), 4);
+            Checks.owe(w, 0, 6, 10);
+            t.due("the last of seven is ahead", w.least(), 6);
         });
     }
 
@@ -166,6 +183,9 @@ public final class EdgesOfDebts {
             t.due("all are even", x.even(), 0);
             t.row("all are even", x, 15);
             t.due("nothing is owed", x.count(4), 0);
+            SnowForSummer one = Checks.debts(7, 6, 0, 1);
+            t.due("one DAY", one.even(), 1);
+            t.due("one DAY of the last of seven", one.debt(6, 0), 1);
             t.due("even again", x.even(), 0);
             t.row("even again", x, 0);
         });
@@ -228,7 +248,7 @@ public final class EdgesOfDebts {
         });
         E.promise(29, "-2: nobody owes", t -> {
             SnowForSummer x = Checks.debts(3);
-            x.least();
+            x.above(0);
             Edges.idle(t, "debtor", x, -2, x::debtor);
             Checks.owe(x, 2, 1, 1);
             t.due("one DAY", x.debtor(), 2);
@@ -351,10 +371,43 @@ public final class EdgesOfDebts {
         E.promise(33, "-2: not by 60", t -> {
             SnowForSummer x = Checks.debts(2, 0, 1, 31);
             x.set(0, 6, 30);
-            x.least();
+            x.above(0);
             Edges.idle(t, "61 are needed", x, -2, x::summer);
             x.set(0, 6, 29);
             t.due("60 are", x.summer(), 60);
+        });
+    }
+
+    private static void seven() {
+        E.promise(29, "The HOUSE that owes the most: the last of seven", t -> {
+            SnowForSummer x = Checks.debts(7, 0, 6, 4, 6, 5, 5);
+            t.due("debtor", x.debtor(), 6);
+            t.row("debtor", x, 5, 1);
+        });
+        E.promise(30, "the first HOUSE that needs so many: the last of seven", t -> {
+            SnowForSummer x = Checks.debts(7, 0, 6, 4, 6, 5, 5);
+            t.due("june", x.june(), 5);
+            t.row("june", x, 6);
+        });
+        E.promise(31, "HOUSES whose HAY is in: of seven", t -> {
+            SnowForSummer x = Checks.debts(7, 0, 6, 4, 6, 5, 5);
+            for (int house = 0; house < 7; house++) {
+                x.set(house, 6, 6);
+            }
+            t.due("hay(6)", x.hay(6), 2 + 4 + 8 + 16 + 32);
+            t.row("hay(6): 0 has two, 6 has five", x, 4 + 1);
+        });
+        E.promise(32, "For which HOUSE one works: the last of seven", t -> {
+            SnowForSummer x = Checks.debts(7, 0, 6, 4, 6, 5, 5);
+            t.due("for 6", x.works(0, 4), 6);
+            t.due("6 for 5", x.works(6, 5), 5);
+            t.due("6 for itself", x.works(6, 6), 6);
+            t.row("6 for itself", x, 60);
+        });
+        E.promise(33, "by which all HAY is in: of seven", t -> {
+            SnowForSummer x = Checks.debts(7, 0, 6, 4, 6, 5, 5);
+            x.set(6, 6, 6);
+            t.due("5 owed, two of its own", x.summer(), 7);
         });
     }
 

@@ -28,7 +28,7 @@ public final class EdgesOfHands {
         SnowForSummer x = Checks.town("5,11;5,00", "3");
         x.set(0, 1, 4);
         x.set(1, 1, 5);
-        x.least();
+        x.later(0, 0);
         return x;
     }
 
@@ -193,7 +193,7 @@ public final class EdgesOfHands {
             SnowForSummer x = two();
             String was = Edges.image(x);
             x.rests(1, 20);
-            x.least();
+            x.later(0, 0);
             t.due("all as ahead", Edges.image(x).equals(was), true);
         });
     }
@@ -224,6 +224,25 @@ public final class EdgesOfHands {
             t.row("two rounds alone", x, 0, 1 + 8);
             t.due("one round alone", x.rests(1, 1), 1);
             t.row("one round alone", x, 0, 8);
+        });
+        E.promise(47, "those of its SIDES that better() tells: of one inch, too", t -> {
+            SnowForSummer x = Checks.town("5,11;5,00", "9");
+            x.set(0, 1, 1);
+            Checks.put(x, "d*(d>9)").rule();
+            t.due("1 now and 9 then, or 10", x.rests(1, 20), 2);
+            t.row("one inch", x, 1, 1);
+            Checks.put(x, "7").rule();
+            t.due("7 now and 7 then, or 7", x.rests(1, 20), 1);
+            t.row("not less", x, 1, 0);
+            Checks.put(x, "7*(d>9)+7*x").rule();
+            t.due("7 now, or 7: not less", x.rests(1, 20), 1);
+            t.row("7 now, or 7", x, 1, 0);
+        });
+        E.promise(47, "SIDES set off (bits): all of seven", t -> {
+            SnowForSummer x = Checks.town("5,11;5,22;5,33;5,44;5,55;5,66;5,00", "9", "9*(d>9)");
+            x.sheet(2, 14, 2, 0);
+            t.due("all in one round", x.rests(1, 20), 2);
+            t.row("all", x, 1, (1 << 14) - 1);
         });
         E.promise(47, "SIDE 0 first", t -> {
             SnowForSummer x = Checks.town("5,11;5,11", "", "20+5*x-p*x");
@@ -365,7 +384,7 @@ public final class EdgesOfHands {
         });
         E.promise(51, "NoSuchElementException: no HOUSES, another n", t -> {
             SnowForSummer none = new SnowForSummer();
-            none.least();
+            none.above(0);
             Edges.idleThrow(t, "no HOUSES", none, () -> none.premium(0));
             SnowForSummer x = two();
             for (int n : NOT_0_TO_60) {

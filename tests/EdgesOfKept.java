@@ -53,6 +53,7 @@ public final class EdgesOfKept {
             t.due("none", x.thaw(), 0);
             x.track(0, 1);
             x.track(0, 1);
+            t.due("0 alone was out", x.suspects(2), 1);
             t.due("two", x.thaw(), 2);
             t.due("none now", x.count(7), 0);
             t.due("none again", x.thaw(), 0);

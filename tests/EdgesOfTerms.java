@@ -177,7 +177,8 @@ public final class EdgesOfTerms {
     private static void ruleSigns() {
         E.term(1, "THE RULE (at first none: d)", t -> t.due("none", Edges.owes(""), 7));
         E.term(1, "< > = bind least (two; 1 or 0)", t -> {
-            asRules(t, "d<7", 0, "d<8", 1, "d>7", 0, "d>6", 1, "d=7", 1, "d=8", 0, "d+1<2*5", 1, "d-1=2*3", 1, "1>0-1", 1);
+            asRules(t, "d<7", 0, "d<8", 1, "d>7", 0, "d>6", 1, "d=7", 1, "d=8", 0, "d+1<2*5", 1, "d-1=2*3", 1, "1>0-1", 1,
+                "5+(d<7)", 5, "5+(d>7)", 5, "5+(d=8)", 5, "5+(d<8)", 6, "5+(d>6)", 6, "5+(d=7)", 6);
         });
         E.term(1, "not one behind the other", t -> {
             asRules(t, "1<2<3", -1 - 3, "1=2>3", -1 - 3, "(1<2)<3", 1, "1<(2=3)", 0, "(1<2<3)", -1 - 4);
@@ -187,7 +188,7 @@ public final class EdgesOfTerms {
             asRules(t, "80/4/2", 10, "2*3/4*5", 5, "9/(3-3)+4", 4, "0/0+3", 3, "7/2", 3, "9+-7/2", 6, "9+7/-2", 6, "9+-1/2", 9);
         });
         E.term(1, "then - ahead of a thing (any many)", t -> {
-            asRules(t, "--d", 7, "9---d", 2, "9+-d", 2, "2*-d+20", 6, "9--(d)", 16, Edges.times(38, "-") + "d", 7,
+            asRules(t, "--d", 7, "---d+20", 13, "----d", 7, "-----d+20", 13, "9---d", 2, "9+-d", 2, "2*-d+20", 6, "9--(d)", 16, Edges.times(38, "-") + "d", 7,
                 "0" + Edges.times(38, "-") + "d", 7, "50" + Edges.times(37, "-") + "d", 43);
         });
     }
@@ -204,6 +205,11 @@ public final class EdgesOfTerms {
         });
         E.term(1, "of a SLIDE: d, p, t, o, n, x, h, b", t -> {
             asRules(t, "d", 7, "p", 2, "t", 4, "o", 9, "n", 3, "x", 1, "h", 1, "b+8", 8);
+            SnowForSummer x = Checks.town("11,66;22,66;33,66;44,65", "", "o+10*h+b");
+            Checks.put(x, "55,66;66,66;77,66").town();
+            x.set(3, 2, 9);
+            x.loose(0, 7);
+            t.row("44 of HOUSE 3 onto 5", x, 79);
         });
         E.term(1, "p inches on the PATH ahead of it", t -> {
             SnowForSummer x = Checks.town("50,11;50,00", "", "p");
@@ -215,17 +221,17 @@ public final class EdgesOfTerms {
             t.row("what slid first", x, 5);
         });
         E.term(1, "t inches it thaws in that DAY (0, if none)", t -> {
-            SnowForSummer x = Checks.town("50,11;50,00", "9i", "t");
+            SnowForSummer x = Checks.town("50,11;50,00", "9i", "5+t");
             x.sheet(2, 2, 20, 0);
             x.loose(0, 0);
-            t.row("9 fall", x, 0);
+            t.row("9 fall", x, 5);
             x.day();
             x.loose(0, 1);
-            t.row("9 thaw", x, 9);
+            t.row("9 thaw", x, 14);
             Checks.put(x, "").weather();
             x.set(0, 1, 20);
             x.loose(0, 0);
-            t.row("no WEATHER", x, 0);
+            t.row("no WEATHER", x, 5);
         });
         E.term(1, "x 1 if it was set off", t -> {
             SnowForSummer x = Checks.town("5,11;5,00", "", "3+x");

@@ -76,6 +76,9 @@ public final class EdgesOfTown {
             t.due("ring", x.ring(), -2);
             t.due("least", x.least(), 0);
             t.due("even", x.even(), 0);
+            t.due("debtor", x.debtor(), -2);
+            t.due("june", x.june(), 0);
+            t.row("june", x, -1);
             t.due("summer", x.summer(), 0);
             t.due("hay(60)", x.hay(60), 0);
             t.due("ahead(60)", x.ahead(60), 0);
@@ -302,8 +305,8 @@ public final class EdgesOfTown {
                 String told = text.substring(0, p) + '!' + text.substring(p + 1);
                 t.due(told, readRule(told), -1 - p);
             }
-            String[] wrong = {"d)", "d(", "dp", "d1", "1d", "*d", "d**d", "d<>p", "()", "(d)(p)", "+1", "D", "e"};
-            int[] places = {1, 1, 1, 1, 1, 0, 2, 2, 1, 3, 0, 0, 0};
+            String[] wrong = {"d<", "d>", "d=", "d+", "d-", "d*", "d/", "-", "(", "d)", "d(", "dp", "d1", "1d", "*d", "d**d", "d<>p", "()", "(d)(p)", "+1", "D", "e"};
+            int[] places = {2, 2, 2, 2, 2, 2, 2, 1, 1, 1, 1, 1, 1, 1, 0, 2, 2, 1, 3, 0, 0, 0};
             for (int i = 0; i < wrong.length; i++) {
                 t.due(wrong[i], readRule(wrong[i]), -1 - places[i]);
             }
@@ -548,6 +551,8 @@ public final class EdgesOfTown {
             t.due("its own two are not told", x.above(6), 16 + 32);
             x.set(0, 5, 6);
             t.due("another one's is", x.above(6), 2 + 16 + 32);
+            x.set(0, 4, 6);
+            t.due("SIDE 0, too", x.above(6), 3 + 16 + 32);
         });
         E.promise(12, "the SIDE of them with the most (of equal ones the first)", t -> {
             SnowForSummer x = Checks.town("5,00;5,00;5,00");
@@ -561,7 +566,7 @@ public final class EdgesOfTown {
             x.above(0);
             t.row("its own does not count", x, 21, 4);
         });
-        E.promise(12, "NONE: no SNOW lies there", t -> {
+        E.promise(12, "NONE: no SNOW lies there; one inch does", t -> {
             SnowForSummer x = Checks.town("5,00;5,00");
             x.set(0, 1, 9);
             x.set(1, 3, 9);
@@ -569,6 +574,9 @@ public final class EdgesOfTown {
             t.row("above(0)", x, 0, -1);
             t.due("above(1): none lies above", x.above(1), 0);
             t.row("above(1)", x, 0, -1);
+            x.set(1, 2, 1);
+            x.above(0);
+            t.row("one inch", x, 1, 3);
         });
         E.promise(12, "NONE: none such", t -> {
             SnowForSummer x = Checks.town("5,22;5,22");
