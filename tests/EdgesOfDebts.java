@@ -384,6 +384,16 @@ public final class EdgesOfDebts {
             t.due("debtor", x.debtor(), 6);
             t.row("debtor", x, 5, 1);
         });
+        E.promise(29, "to how many HOUSES: its own DEBTS alone", t -> {
+            SnowForSummer x = Checks.debts(7, 0, 6, 4, 1, 0, 5);
+            t.due("1", x.debtor(), 1);
+            t.row("1 owes one, though 0 owes 6", x, 5, 1);
+            for (int to = 1; to < 6; to++) {
+                Checks.owe(x, 0, to, to);
+            }
+            t.due("0", x.debtor(), 0);
+            t.row("0 owes all the others", x, 4 + 15, 6);
+        });
         E.promise(30, "the first HOUSE that needs so many: the last of seven", t -> {
             SnowForSummer x = Checks.debts(7, 0, 6, 4, 6, 5, 5);
             t.due("june", x.june(), 5);
